@@ -447,20 +447,19 @@ public final class PressureNets {
             return false;
         }
 
-        // Answers the zones that rose, as bits.
+        // Answers which of the zones rose, as bits. Once all of them did, a lift is cheaper than
+        // further sweeps.
         private int doBout(State state, int among) {
             int rose = 0;
-            for (int sweep = 0; sweep < SWEEPS_IN_BOUT; sweep++) {
-                int roseNow = 0;
+            boolean goesOn = true;
+            for (int sweep = 0; sweep < SWEEPS_IN_BOUT && goesOn && rose != among; sweep++) {
+                goesOn = false;
                 for (int zone = 0; zone < net.zoneCount; zone++) {
                     if ((among >> zone & 1) != 0 && raises(state, zone)) {
-                        roseNow |= 1 << zone;
+                        rose |= 1 << zone;
+                        goesOn = true;
                     }
                 }
-                if (roseNow == 0) {
-                    return rose;
-                }
-                rose |= roseNow;
             }
             return rose;
         }
@@ -492,29 +491,21 @@ public final class PressureNets {
         // Zones that are tightly joined would rise together by ones, thousands of times; this
         // takes them up in one go. Flows hang on differences alone: lifted together, the zones
         // press on one another as before and are held back by all other places no less than
-        // before. So if a bout among them still raises each of them after the lift, it does so
-        // after every smaller lift too; step by step they would come as far, and are not above
-        // the least state there.
+        // before. So if a bout among them raises each of them after the lift, it does so after
+        // every smaller lift too: one by one they would come as far, and are not above the least
+        // state there.
         private boolean lifts(State state, int among, int lift) {
             System.arraycopy(state.pressure, 0, before, 0, PLACES);
-            boolean holds = true;
             for (int zone = 0; zone < net.zoneCount; zone++) {
                 if ((among >> zone & 1) != 0) {
                     state.pressure[rowOf(zone)] += lift;
-                    holds = holds && state.pressure[rowOf(zone)] <= HIGHEST;
                 }
             }
-            if (holds) {
-                doBout(state, among);
+            if (!isPastHighest(state) && doBout(state, among) == among) {
+                return true;
             }
-            for (int zone = 0; zone < net.zoneCount && holds; zone++) {
-                int row = rowOf(zone);
-                holds = (among >> zone & 1) == 0 || state.pressure[row] > before[row] + lift;
-            }
-            if (!holds) {
-                System.arraycopy(before, 0, state.pressure, 0, PLACES);
-            }
-            return holds;
+            System.arraycopy(before, 0, state.pressure, 0, PLACES);
+            return false;
         }
     }
 
