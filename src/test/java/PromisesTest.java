@@ -1,12 +1,5 @@
-import java.util.function.LongSupplier;
-
 /** Each promise of the document by itself: ordinary inputs, the edges, wrong inputs. */
-public final class PromisesTest {
-    private static final int NONE = PressureNets.NONE;
-    private static final int[] EXTREMES = {Integer.MIN_VALUE, Integer.MAX_VALUE};
-
-    private static int wrong = 0;
-
+public final class PromisesTest extends Checks {
     public static void main(String[] args) {
         newObject();
         zone();
@@ -30,50 +23,7 @@ public final class PromisesTest {
         steps();
         stepsThatAreNotDone();
         gone();
-        System.out.println("PromisesTest: " + wrong + " wrong");
-        if (wrong != 0) {
-            System.exit(1);
-        }
-    }
-
-    private static void due(String what, long got, long want) {
-        if (got != want) {
-            wrong++;
-            System.out.println(what + " answered " + got + ", due is " + want);
-        }
-    }
-
-    private static String thrownBy(LongSupplier call) {
-        try {
-            call.getAsLong();
-            return "nothing";
-        } catch (RuntimeException e) {
-            return e.getClass().getSimpleName();
-        }
-    }
-
-    private static void illegalArgument(String what, LongSupplier call) {
-        thrown(what, call, "IllegalArgumentException");
-    }
-
-    private static void illegalState(String what, LongSupplier call) {
-        thrown(what, call, "IllegalStateException");
-    }
-
-    private static void thrown(String what, LongSupplier call, String want) {
-        String got = thrownBy(call);
-        if (!got.equals(want)) {
-            wrong++;
-            System.out.println(what + " threw " + got + ", due is " + want);
-        }
-    }
-
-    private static PressureNets netOf(int zones) {
-        PressureNets x = new PressureNets();
-        for (int k = 0; k < zones; k++) {
-            x.zone(0, 100);
-        }
-        return x;
+        end("PromisesTest");
     }
 
     // Promise 1
