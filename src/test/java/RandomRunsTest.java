@@ -14,6 +14,7 @@ public final class RandomRunsTest {
     private final SlowNets slow = new SlowNets();
     private final boolean isTight;
     private final boolean isRootOnly;
+    private final boolean isExtreme;
     private final int mostZones;
     private int zones = 0;
     private int leaks = 0;
@@ -23,6 +24,7 @@ public final class RandomRunsTest {
         random = new Random(seed);
         isTight = random.nextInt(3) == 0;
         isRootOnly = random.nextInt(3) == 0;
+        isExtreme = random.nextInt(4) == 0;
         mostZones = 1 + random.nextInt(9);
     }
 
@@ -196,7 +198,8 @@ public final class RandomRunsTest {
         }
     }
 
-    // Mostly within the narrow bounds, at times their ends, at times anything or the wide ends.
+    // Mostly within the narrow bounds, at times (in some runs mostly) their ends, at times anything
+    // or the wide ends.
     private int number(int wideLeast, int wideMost, int least, int most) {
         int pick = random.nextInt(40);
         if (pick == 0) {
@@ -208,7 +211,7 @@ public final class RandomRunsTest {
         if (most < least) {
             return least;
         }
-        if (pick < 6) {
+        if (pick < (isExtreme ? 30 : 6)) {
             return pick % 2 == 0 ? least : most;
         }
         return least + random.nextInt(most - least + 1);

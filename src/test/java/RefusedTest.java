@@ -115,7 +115,7 @@ public final class RefusedTest extends Checks {
         for (int zone = 0; zone < size.zones; zone++) {
             int z = zone;
             shown.add("source of " + z + " " + answer(() -> x.source(z, 7)));
-            shown.add("warmth of " + z + " " + answer(() -> x.warmth(z, 70)));
+            shown.add("warmth of " + z + " " + answer(() -> x.warmth(z, 70 + 40 * z)));
         }
         shown.add("air " + answer(() -> x.warmth(-1, -30)));
         for (int side = -4; side <= -1; side++) {
