@@ -378,7 +378,7 @@ public final class PressureNets {
                 return 0;
             }
             long above = 1;
-            while (above * above < drive) {
+            for (int k = 0; k < 32 && above * above < drive; k++) {
                 above *= 2;
             }
             long square = (long) area * area * drive;

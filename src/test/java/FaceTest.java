@@ -2,8 +2,11 @@ import java.lang.reflect.Constructor;
 import java.lang.reflect.Field;
 import java.lang.reflect.Method;
 import java.lang.reflect.Modifier;
+import java.util.Arrays;
+import java.util.List;
 import java.util.Set;
 import java.util.TreeSet;
+import java.util.stream.Collectors;
 
 /** The class shows the document's face and nothing more. */
 public final class FaceTest {
@@ -13,6 +16,9 @@ public final class FaceTest {
             "int pressure(int)", "int told(int,int)", "int blows(int)", "int gain(int)",
             "int caseOf(int)", "int worst(int,int)", "int put(int,int)", "int source(int,int)",
             "int steps(int)", "long gone(int)");
+    private static final Set<String> NAMES = METHODS.stream()
+            .map(m -> m.substring(m.indexOf(' ') + 1, m.indexOf('('))).collect(Collectors.toSet());
+    private static final Set<String> MAY_BE_FULL = Set.of("zone", "leak", "fan", "caseOf");
 
     private static int wrong = 0;
 
@@ -23,6 +29,13 @@ public final class FaceTest {
         demand(methods(face).equals(new TreeSet<>(METHODS)), "methods " + methods(face));
         for (Field f : face.getDeclaredFields()) {
             demand(f.getName().equals("NONE") || Modifier.isPrivate(f.getModifiers()), "field " + f);
+        }
+        demand(Arrays.stream(face.getFields()).map(Field::toString).toList()
+                .equals(List.of("public static final int PressureNets.NONE")), "the one constant");
+        for (Method m : face.getDeclaredMethods()) {
+            boolean isPublic = Modifier.isPublic(m.getModifiers());
+            demand(isPublic == NAMES.contains(m.getName()), "name of " + m);
+            demand(!isPublic || thrownBy(m).equals(dueThrows(m)), "throws of " + m);
         }
         Constructor<?>[] made = face.getDeclaredConstructors();
         demand(made.length == 1 && made[0].getParameterCount() == 0
@@ -42,12 +55,22 @@ public final class FaceTest {
         Set<String> all = new TreeSet<>();
         for (Method m : face.getDeclaredMethods()) {
             if (!Modifier.isPrivate(m.getModifiers())) {
-                String parameters = String.join(",", java.util.Arrays.stream(m.getParameterTypes())
+                String parameters = String.join(",", Arrays.stream(m.getParameterTypes())
                         .map(Class::getName).toList());
                 all.add(m.getReturnType().getName() + " " + m.getName() + "(" + parameters + ")");
             }
         }
         return all;
+    }
+
+    private static List<Class<?>> thrownBy(Method m) {
+        return List.of(m.getExceptionTypes());
+    }
+
+    private static List<Class<?>> dueThrows(Method m) {
+        return MAY_BE_FULL.contains(m.getName())
+                ? List.of(IllegalArgumentException.class, IllegalStateException.class)
+                : List.of(IllegalArgumentException.class);
     }
 
     private static void demand(boolean is, String what) {
